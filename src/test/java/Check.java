@@ -81,6 +81,13 @@ final class Check {
         return tilesNotKept(house);
     }
 
+    /** Makes all the states for which there is room; an even number of them leaves the selection as it was. */
+    static void fullOfStates(Palettehouse house) {
+        while (house.states() < 60) {
+            house.invert();
+        }
+    }
+
     static void end() {
         System.out.println("        " + checks + " checks, " + wrong + " wrong");
         if (wrong != 0) {

@@ -115,7 +115,7 @@ final class LayersTest {
         for (char mode : "nmsadkl".toCharArray()) {
             Check.same("a mode", house.states(), house.setLook(0, 255, mode, true));
         }
-        fullOfStates(house);
+        Check.fullOfStates(house);
         Check.thrown("60 states", Check.STATE, house, h -> h.setLook(0, 1, 'n', true));
         Check.thrown("no such mode at 60 states", Check.ARGUMENT, house, h -> h.setLook(0, 1, 'x', true));
     }
@@ -134,7 +134,7 @@ final class LayersTest {
         Check.thrown("no such layer", Check.INDEX, house, h -> h.setPassing(3, true));
         Check.thrown("a paint layer", Check.UNSUPPORTED, house, h -> h.setPassing(0, true));
         Check.thrown("a change", Check.UNSUPPORTED, house, h -> h.setPassing(2, false));
-        fullOfStates(house);
+        Check.fullOfStates(house);
         Check.thrown("60 states", Check.STATE, house, h -> h.setPassing(1, true));
         Check.thrown("no group at 60 states", Check.UNSUPPORTED, house, h -> h.setPassing(0, true));
     }
@@ -169,7 +169,7 @@ final class LayersTest {
         Check.thrown("'l' with -1", Check.ARGUMENT, house, h -> h.setChange(1, 'l', -1, 9));
         Check.thrown("'l' with the greatest int", Check.ARGUMENT, house, h -> h.setChange(1, 'l', Integer.MAX_VALUE, 9));
         Check.thrown("a paint layer", Check.UNSUPPORTED, house, h -> h.setChange(0, 'i', 0, 0));
-        fullOfStates(house);
+        Check.fullOfStates(house);
         Check.thrown("60 states", Check.STATE, house, h -> h.setChange(1, 'i', 0, 0));
         Check.thrown("no change at 60 states", Check.UNSUPPORTED, house, h -> h.setChange(0, 'i', 0, 0));
     }
@@ -196,7 +196,7 @@ final class LayersTest {
             Check.thrown("ahead of no paint layer", Check.ARGUMENT, house, h -> h.setOffset(1, 0, wrong));
         }
         Check.thrown("a group", Check.UNSUPPORTED, house, h -> h.setOffset(1, 0, 0));
-        fullOfStates(house);
+        Check.fullOfStates(house);
         Check.thrown("60 states", Check.STATE, house, h -> h.setOffset(0, 0, 0));
         Check.thrown("a group at 60 states", Check.UNSUPPORTED, house, h -> h.setOffset(1, 0, 0));
     }
@@ -217,7 +217,7 @@ final class LayersTest {
         Check.same("lock touches no tile", 0, Check.tilesTouched(house, h -> h.lock(0, true)));
         Check.thrown("no such layer", Check.INDEX, house, h -> h.lock(2, true));
         Check.thrown("a change", Check.UNSUPPORTED, house, h -> h.lock(1, true));
-        fullOfStates(house);
+        Check.fullOfStates(house);
         Check.thrown("60 states", Check.STATE, house, h -> h.lock(0, true));
         Check.thrown("a change at 60 states", Check.UNSUPPORTED, house, h -> h.lock(1, true));
     }
@@ -254,7 +254,7 @@ final class LayersTest {
         Check.thrown("place -1", Check.ARGUMENT, house, h -> h.move(0, -1));
         Check.thrown("place 4 of 4", Check.ARGUMENT, house, h -> h.move(0, 4));
         Check.thrown("place 3 of 3 inside", Check.ARGUMENT, house, h -> h.move(4, 3));
-        fullOfStates(house);
+        Check.fullOfStates(house);
         Check.thrown("60 states", Check.STATE, house, h -> h.move(0, 0));
         Check.thrown("no such place at 60 states", Check.ARGUMENT, house, h -> h.move(0, 4));
     }
@@ -280,7 +280,7 @@ final class LayersTest {
         Check.same("the last one", 0, house.remove(4));
         Check.thrown("no layer is left", Check.INDEX, house, h -> h.remove(4));
         house.go(6);
-        fullOfStates(house);
+        Check.fullOfStates(house);
         Check.thrown("60 states", Check.STATE, house, h -> h.remove(0));
         Check.thrown("no such layer at 60 states", Check.INDEX, house, h -> h.remove(6));
     }
@@ -305,14 +305,8 @@ final class LayersTest {
         Check.same("a group can have one", 11, house.setMask(1, true));
         Check.same("a change can have one", 12, house.setMask(2, true));
         Check.thrown("no such layer", Check.INDEX, house, h -> h.setMask(3, true));
-        fullOfStates(house);
+        Check.fullOfStates(house);
         Check.thrown("60 states", Check.STATE, house, h -> h.setMask(0, true));
         Check.thrown("no such layer at 60 states", Check.INDEX, house, h -> h.setMask(3, true));
-    }
-
-    private static void fullOfStates(Palettehouse house) {
-        while (house.states() < 60) {
-            house.invert();
-        }
     }
 }
