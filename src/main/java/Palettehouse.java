@@ -1290,9 +1290,9 @@ public final class Palettehouse {
 
         /** Takes the earliest of the best ends, as the document wants it of several ways. */
         private void chooseEnd(int ranges, int first) {
-            long best = Long.MAX_VALUE;
             int bestEnd = first + 1;
-            for (int end = first + 1; end + ranges - 1 <= different; end++) {
+            long best = error(first, bestEnd) + least[ranges - 1][bestEnd];
+            for (int end = first + 2; end + ranges - 1 <= different; end++) {
                 long error = error(first, end) + least[ranges - 1][end];
                 if (error < best) {
                     best = error;

@@ -12,6 +12,7 @@ final class LooksTest {
         paletteOfProducts();
         paletteOfSeveral();
         paletteOfEqualErrors();
+        paletteOfAllValues();
         paletteOfCutMeans();
         paletteBehindEdits();
         paletteWrong();
@@ -238,6 +239,27 @@ final class LooksTest {
         Check.same("the first range ends first", 40, house.palette(3, 0));
         Check.same("then 50", 50, house.palette(3, 1));
         Check.same("then both others", 85, house.palette(3, 2));
+    }
+
+    /** Each value from 0 to 255 once: rows of 0 to 15, and on them columns of 0, 16, 32 and so on in the mode 'a'. */
+    private static void paletteOfAllValues() {
+        Palettehouse house = onePaintLayer();
+        house.addLayer('p', -1);
+        house.setLook(1, 255, 'a', true);
+        for (int i = 0; i < 16; i++) {
+            house.fill(0, 16 * i, 16, 1, i, 255);
+            house.fill(1, i, 1, 16, 16 * i, 255);
+        }
+        Check.same("one value: 32640 / 256", 127, house.palette(1, 0));
+        // The squares of 1 to 127 twice, and that of 128.
+        Check.same("the error of one", 127 * 128 * 255 / 3 + 128 * 128, house.paletteError(1));
+        // With means that are cut, 31, 32 and 33 values on end make 2480, 2736 and 2992: they stand evenly apart,
+        // so that all ways to part with these are as good, and the earliest ends come of 31 four times.
+        int[] due = {15, 46, 77, 108, 140, 173, 206, 239};
+        for (int rank = 0; rank < 8; rank++) {
+            Check.same("value " + rank + " of eight", due[rank], house.palette(8, rank));
+        }
+        Check.same("the error of eight", 4 * 2480 + 4 * 2992, house.paletteError(8));
     }
 
     private static void paletteOfCutMeans() {

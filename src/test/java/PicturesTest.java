@@ -5,6 +5,7 @@ final class PicturesTest {
     public static void main(String[] args) {
         fill();
         fillBySelection();
+        fillByHalf();
         fillLocked();
         fillTiles();
         fillWrong();
@@ -76,6 +77,17 @@ final class PicturesTest {
         house.setOffset(0, 0, 0);
         pixel("the pixel with 28 by an offset", (28 * 200 + 227 * 40 + 127) / 255, (227 * 20 + 127) / 255, house, 2, 9);
         pixel("the pixel with 28 ahead of it", old, (28 * 255 + 227 * 20 + 127) / 255, house, 5, 5);
+    }
+
+    private static void fillByHalf() {
+        Palettehouse house = onePaintLayer();
+        house.select(0, 1, 16, 'r');
+        house.feather();
+        // Three of six, and (3 * 255 + 3) / 6 = 128; 128 * 1 + 127 = 255.
+        Check.same("the half is selected", 128, house.selected(0, 5));
+        house.fill(0, 0, 16, 16, 1, 255);
+        pixel("the half of 1 is rounded up", 1, 128, house, 0, 5);
+        pixel("a third of 1 is 0", 0, 85, house, 1, 5);
     }
 
     private static void fillLocked() {
@@ -190,6 +202,8 @@ final class PicturesTest {
 
     private static void stroke() {
         strokePlaces("bB", 17, 17, 1, 9);
+        strokePlaces("bB cB", 17, 18, 1, 1);
+        strokePlaces("bB bC", 33, 17, 1, 1);
         strokePlaces("bB cB dB eB", 17, 20, 1, 1);
         strokePlaces("bB cB dB eB", 20, 17, 1, 1);
         // y moves by 1 in 3 steps: 0, 1/3, 2/3, 1, rounded toward 0.
@@ -220,6 +234,10 @@ final class PicturesTest {
         pixel("a pixel in one stamp", (2 * 4520000 + 37900) / 75800, (2 * 37900 + 255) / 510, house, 0, 0);
         house.stroke(0, 255, 255, 1, 1, 50, 0);
         pixel("no opacity", 200, 100, house, 15, 15);
+        house.stroke(0, 16, 16, 1, 1, 0, 255);
+        pixel("the least value", 0, 255, house, 0, 1);
+        house.stroke(0, 16, 16, 1, 1, 255, 255);
+        pixel("the greatest value", 255, 255, house, 0, 1);
         house.lock(0, true);
         house.stroke(0, 255, 255, 1, 1, 50, 255);
         pixel("a locked pixel", 50, 100, house, 15, 15);
@@ -281,6 +299,11 @@ final class PicturesTest {
         pixel("a corner has four", 77, (2 * 200 + 4) / 8, house, 0, 0);
         pixel("a side has six", 77, (2 * 200 + 6) / 12, house, 1, 0);
         pixel("the last corner has four", 66, (2 * 200 + 4) / 8, house, 15, 15);
+        house.fill(0, 8 * 16 + 8, 1, 1, 0, 5);
+        house.blur(0, 1);
+        pixel("a value 0 stays, and its alpha is (10 + 9) / 18", 0, 1, house, 8, 8);
+        house.undo();
+        house.undo();
         house.lock(0, true);
         house.blur(0, 2);
         Check.same("a locked alpha", (2 * 200 + 4) / 8, house.alpha(0, 0));

@@ -3,6 +3,7 @@ final class RenderingTest {
     public static void main(String[] args) {
         modes();
         modesOverAlpha();
+        roundedUp();
         strengthOfMask();
         closedGroup();
         passingGroup();
@@ -57,6 +58,22 @@ final class RenderingTest {
         pixel("a product on nothing", 100, 128, house);
         house = twoLayers(200, 77, 100, 0);
         pixel("nothing on a pixel", 200, 77, house);
+    }
+
+    /** What lies just at the half is rounded up: 128 plus 127 is 255. */
+    private static void roundedUp() {
+        Palettehouse house = twoLayers(0, 0, 100, 1);
+        house.setLook(1, 127, 'n', true);
+        pixel("the product of 1 and 127", 0, 0, house);
+        house.setLook(1, 128, 'n', true);
+        pixel("the product of 1 and 128", 100, 1, house);
+        house = new Palettehouse();
+        house.addLayer('p', -1);
+        house.addLayer('a', -1);
+        house.fill(0, 0, 16, 16, 127, 255);
+        house.setLook(1, 128, 'n', true);
+        // 128 * 128 + 127 * 127 = 32513 = 127 * 255 + 128.
+        pixel("a change in part", 128, 255, house);
     }
 
     private static void strengthOfMask() {

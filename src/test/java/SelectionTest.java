@@ -124,6 +124,15 @@ final class SelectionTest {
         Check.same("hanging by the offset", 2, house.selectLike(0, 4 * 16, 10, true));
         house.fill(0, 0, 16, 16, 5, 5);
         Check.same("just the pixels that are selected", 2, house.selectLike(0, 4 * 16 + 1, 0, true));
+        house = new Palettehouse();
+        house.addLayer('p', -1);
+        house.fill(0, 0, 16, 16, 5, 5);
+        house.setOffset(0, 0, 1);
+        Check.same("all but a row", 240, house.selectLike(0, 255, 0, false));
+        Check.same("not the first row", 0, house.selected(15, 0));
+        house.setOffset(0, -15, -15);
+        Check.same("one pixel", 1, house.selectLike(0, 0, 0, false));
+        Check.same("none at the last place", 0, house.selectLike(0, 255, 255, true));
     }
 
     private static void selectLikeWrong() {
@@ -203,6 +212,9 @@ final class SelectionTest {
         Check.same("once more", 9, house.feather());
         Check.same("the four: (64 + 43 + 43 + 28 + 2) / 4", 45, house.selected(0, 0));
         Check.same("one of nine: (28 + 4) / 9", 3, house.selected(2, 2));
+        Check.same("a number of 1 counts, too", 15, house.feather());
+        Check.same("one of nine: (8 + 3 + 4) / 9", 1, house.selected(3, 2));
+        Check.same("one of nine: (3 + 4) / 9", 0, house.selected(3, 3));
         house.select(0, 16, 16, 'r');
         Check.same("all", 256, house.feather());
         Check.same("all stay", 255, house.selected(9, 9));
