@@ -17,6 +17,7 @@ final class PicturesTest {
         strokeTiles();
         strokeWrong();
         blur();
+        blurRounded();
         blurByOffset();
         blurWrong();
         paintFrom();
@@ -299,15 +300,26 @@ final class PicturesTest {
         pixel("a corner has four", 77, (2 * 200 + 4) / 8, house, 0, 0);
         pixel("a side has six", 77, (2 * 200 + 6) / 12, house, 1, 0);
         pixel("the last corner has four", 66, (2 * 200 + 4) / 8, house, 15, 15);
-        house.fill(0, 8 * 16 + 8, 1, 1, 0, 5);
-        house.blur(0, 1);
-        pixel("a value 0 stays, and its alpha is (10 + 9) / 18", 0, 1, house, 8, 8);
-        house.undo();
-        house.undo();
         house.lock(0, true);
         house.blur(0, 2);
         Check.same("a locked alpha", (2 * 200 + 4) / 8, house.alpha(0, 0));
         Check.same("no alpha comes to it", 0, house.alpha(2, 2));
+    }
+
+    private static void blurRounded() {
+        Palettehouse house = onePaintLayer();
+        house.fill(0, 8 * 16 + 8, 1, 1, 0, 5);
+        house.blur(0, 1);
+        pixel("a value 0 stays, and its alpha is (10 + 9) / 18", 0, 1, house, 8, 8);
+        // Nine alphas of 1, and one value among them: (2 * 4 + 9) / 18 is 0, and (2 * 5 + 9) / 18 is 1.
+        int nine = house.state();
+        house.fill(0, 8 * 16 + 8, 1, 1, 4, 1);
+        house.blur(0, 1);
+        pixel("less than a half", 0, 1, house, 8, 8);
+        house.go(nine);
+        house.fill(0, 8 * 16 + 8, 1, 1, 5, 1);
+        house.blur(0, 1);
+        pixel("more than a half", 1, 1, house, 8, 8);
     }
 
     private static void blurByOffset() {
