@@ -49,36 +49,46 @@ final class Check {
         return e.getStackTrace()[0].getClassName().startsWith("Palettehouse");
     }
 
-    /** All that can be asked without changing anything that calls can tell. */
+    /** Some answers that change nothing; RefusalsTest asks for more of them, of objects that it needs no more. */
     static String looksOf(Palettehouse house) {
         StringBuilder looks = new StringBuilder();
         looks.append(house.state()).append(' ').append(house.states()).append(' ').append(house.sum());
         looks.append(' ').append(house.rendered()).append(' ').append(house.isConsistent());
-        for (int place = 0; place < 256; place++) {
-            looks.append(' ').append(house.valueAnew(place % 16, place / 16));
-            looks.append(' ').append(house.selected(place % 16, place / 16));
-        }
+        looks.append(' ').append(house.cover()).append(' ').append(house.paletteError(8));
         return looks.toString();
     }
 
-    /** The tiles, by bits, that are not kept; all are kept then, if the limit allows it. */
+    /** The tiles, by bits, that are not kept; all are kept then, if the limit allows it. 32 calls. */
     static int tilesNotKept(Palettehouse house) {
         int tiles = 0;
+        int before = house.rendered();
         for (int tile = 0; tile < 16; tile++) {
-            int before = house.rendered();
             house.value(tile % 4 * 4, tile / 4 * 4);
-            if (house.rendered() != before) {
-                tiles |= 1 << tile;
-            }
+            int behind = house.rendered();
+            tiles |= behind == before ? 0 : 1 << tile;
+            before = behind;
         }
         return tiles;
     }
 
+    /** Looks at all tiles: all are kept then, if the limit allows it. 16 calls. */
+    static void keepTiles(Palettehouse house) {
+        for (int tile = 0; tile < 16; tile++) {
+            house.value(tile % 4 * 4, tile / 4 * 4);
+        }
+    }
+
     /** The tiles, by bits, that a call touches. */
     static int tilesTouched(Palettehouse house, Consumer<Palettehouse> call) {
-        tilesNotKept(house);
+        keepTiles(house);
         call.accept(house);
         return tilesNotKept(house);
+    }
+
+    static Palettehouse onePaintLayer() {
+        Palettehouse house = new Palettehouse();
+        house.addLayer('p', -1);
+        return house;
     }
 
     /** Makes all the states for which there is room; an even number of them leaves the selection as it was. */

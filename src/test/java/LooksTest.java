@@ -22,14 +22,8 @@ final class LooksTest {
         Check.end();
     }
 
-    private static Palettehouse onePaintLayer() {
-        Palettehouse house = new Palettehouse();
-        house.addLayer('p', -1);
-        return house;
-    }
-
     private static void valueAndAlpha() {
-        Palettehouse house = onePaintLayer();
+        Palettehouse house = Check.onePaintLayer();
         house.fill(0, 3 * 16 + 9, 1, 1, 70, 80);
         Check.same("value by x and y", 70, house.value(9, 3));
         Check.same("alpha by x and y", 80, house.alpha(9, 3));
@@ -41,7 +35,7 @@ final class LooksTest {
     }
 
     private static void valueAnew() {
-        Palettehouse house = onePaintLayer();
+        Palettehouse house = Check.onePaintLayer();
         house.fill(0, 3 * 16 + 9, 1, 1, 70, 80);
         Check.same("value anew by x and y", 70, house.valueAnew(9, 3));
         Check.same("value anew by y and x", 0, house.valueAnew(3, 9));
@@ -49,7 +43,7 @@ final class LooksTest {
     }
 
     private static void pixelsThatAreNotThere() {
-        Palettehouse house = onePaintLayer();
+        Palettehouse house = Check.onePaintLayer();
         for (int wrong : new int[] {-1, 16, Integer.MAX_VALUE, Integer.MIN_VALUE}) {
             Check.thrown("value, x " + wrong, Check.INDEX, house, h -> h.value(wrong, 0));
             Check.thrown("value, y " + wrong, Check.INDEX, house, h -> h.value(0, wrong));
@@ -61,7 +55,7 @@ final class LooksTest {
     }
 
     private static void setKept() {
-        Palettehouse house = onePaintLayer();
+        Palettehouse house = Check.onePaintLayer();
         Check.same("16 at first", 16, house.setKept(3));
         Check.same("the limit before", 3, house.setKept(1));
         Check.same("the limit before, again", 1, house.setKept(16));
@@ -78,7 +72,7 @@ final class LooksTest {
     }
 
     private static void setKeptDropsTheOldest() {
-        Palettehouse house = onePaintLayer();
+        Palettehouse house = Check.onePaintLayer();
         for (int x = 0; x < 16; x += 4) {
             house.value(x, 0);
         }
@@ -104,7 +98,7 @@ final class LooksTest {
     }
 
     private static void setKeptWrong() {
-        Palettehouse house = onePaintLayer();
+        Palettehouse house = Check.onePaintLayer();
         for (int wrong : new int[] {0, 17, -1, Integer.MIN_VALUE}) {
             Check.thrown("limit " + wrong, Check.ARGUMENT, house, h -> h.setKept(wrong));
         }
@@ -112,22 +106,20 @@ final class LooksTest {
     }
 
     private static void rendered() {
-        Palettehouse house = onePaintLayer();
+        Palettehouse house = Check.onePaintLayer();
         for (int place = 0; place < 256; place++) {
             house.value(place % 16, place / 16);
         }
         Check.same("each tile once", 16, house.rendered());
         house.fill(0, 0, 5, 5, 1, 1);
-        for (int place = 0; place < 256; place++) {
-            house.alpha(place % 16, place / 16);
-        }
+        Check.same("four of them", 0x33, Check.tilesNotKept(house));
         Check.same("four of them once more", 20, house.rendered());
         house.go(0);
         Check.same("it counts over all states", 20, house.rendered());
     }
 
     private static void palette() {
-        Palettehouse house = onePaintLayer();
+        Palettehouse house = Check.onePaintLayer();
         Check.same("the one value of nothing", 0, house.palette(1, 0));
         Check.same("no second one", -1, house.palette(8, 1));
         house.fill(0, 0, 16, 16, 10, 255);
@@ -154,7 +146,7 @@ final class LooksTest {
     }
 
     private static void paletteOfProducts() {
-        Palettehouse house = onePaintLayer();
+        Palettehouse house = Check.onePaintLayer();
         house.fill(0, 0, 16, 16, 200, 100);
         Check.same("value and alpha", 78, house.palette(1, 0));
         house.fill(0, 0, 16, 8, 100, 200);
@@ -165,32 +157,36 @@ final class LooksTest {
     }
 
     private static void paletteOfSeveral() {
-        Palettehouse house = onePaintLayer();
+        Palettehouse house = Check.onePaintLayer();
         house.fill(0, 0, 16, 16, 0, 255);
         for (int i = 1; i < 16; i++) {
             house.fill(0, 16 * i, 16, 1, 3 * i * i / 4, 255);
         }
         // Rows: 0 0 3 6 12 18 27 36 48 60 75 90 108 126 147 168.
-        int[] dueValues = {1, 12, 31, 54, 82, 117, 147, 168};
+        int last = -1;
         for (int rank = 0; rank < 8; rank++) {
-            long value = house.palette(8, rank);
-            Check.isTrue("rising values of eight", value >= 0 && (rank == 0 || value > house.palette(8, rank - 1)));
+            int value = house.palette(8, rank);
+            Check.isTrue("rising values of eight", value > last);
+            last = value;
         }
-        Check.same("the least error of eight", leastByTrying(house, 8), house.paletteError(8));
-        Check.same("the least error of five", leastByTrying(house, 5), house.paletteError(5));
-        Check.same("the last value of eight", dueValues[7], house.palette(8, 7));
+        Check.same("the last value of eight", 168, last);
+        int[] values = sortedValues(house);
+        for (int ranges = 1; ranges <= 8; ranges++) {
+            Check.same("the least error of " + ranges, leastFrom(values, 0, ranges), house.paletteError(ranges));
+        }
     }
 
-    /** The least error of all ways to part the values, tried one by one. */
-    private static long leastByTrying(Palettehouse house, int ranges) {
+    /** Of a picture with the alpha 255 everywhere. */
+    private static int[] sortedValues(Palettehouse house) {
         int[] values = new int[256];
         for (int place = 0; place < 256; place++) {
-            values[place] = (house.valueAnew(place % 16, place / 16) * house.alpha(place % 16, place / 16) + 127) / 255;
+            values[place] = house.valueAnew(place % 16, place / 16);
         }
         java.util.Arrays.sort(values);
-        return leastFrom(values, 0, ranges);
+        return values;
     }
 
+    /** The least error of all ways to part the values from the first one on, tried one by one. */
     private static long leastFrom(int[] values, int first, int ranges) {
         if (ranges == 1) {
             return errorOf(values, first, values.length);
@@ -218,7 +214,7 @@ final class LooksTest {
     }
 
     private static void paletteOfEqualErrors() {
-        Palettehouse house = onePaintLayer();
+        Palettehouse house = Check.onePaintLayer();
         house.fill(0, 0, 16, 16, 0, 255);
         house.fill(0, 0, 16, 15, 10, 255);
         house.fill(0, 0, 16, 14, 20, 255);
@@ -230,7 +226,7 @@ final class LooksTest {
         Check.same("the second range ends first", 10, house.palette(3, 1));
         Check.same("the third one has the rest", 25, house.palette(3, 2));
         Check.same("the error of it", 2 * 16 * 25, house.paletteError(3));
-        house = onePaintLayer();
+        house = Check.onePaintLayer();
         house.fill(0, 0, 16, 16, 40, 255);
         house.fill(0, 0, 16, 8, 80, 255);
         house.fill(0, 0, 16, 4, 90, 255);
@@ -243,7 +239,7 @@ final class LooksTest {
 
     /** Each value from 0 to 255 once: rows of 0 to 15, and on them columns of 0, 16, 32 and so on in the mode 'a'. */
     private static void paletteOfAllValues() {
-        Palettehouse house = onePaintLayer();
+        Palettehouse house = Check.onePaintLayer();
         house.addLayer('p', -1);
         house.setLook(1, 255, 'a', true);
         for (int i = 0; i < 16; i++) {
@@ -263,7 +259,7 @@ final class LooksTest {
     }
 
     private static void paletteOfCutMeans() {
-        Palettehouse house = onePaintLayer();
+        Palettehouse house = Check.onePaintLayer();
         house.fill(0, 0, 16, 16, 0, 255);
         house.fill(0, 0, 16, 12, 2, 255);
         // 64 of 0 and 192 of 2: the value 1.5 is cut to 1.
@@ -272,7 +268,7 @@ final class LooksTest {
     }
 
     private static void paletteBehindEdits() {
-        Palettehouse house = onePaintLayer();
+        Palettehouse house = Check.onePaintLayer();
         house.fill(0, 0, 16, 16, 10, 255);
         Check.same("a value", 10, house.palette(1, 0));
         house.fill(0, 0, 16, 16, 30, 255);
@@ -285,7 +281,7 @@ final class LooksTest {
     }
 
     private static void paletteWrong() {
-        Palettehouse house = onePaintLayer();
+        Palettehouse house = Check.onePaintLayer();
         for (int wrong : new int[] {0, 9, -1, Integer.MAX_VALUE}) {
             Check.thrown("palette of " + wrong, Check.ARGUMENT, house, h -> h.palette(wrong, 0));
             Check.thrown("error of " + wrong, Check.ARGUMENT, house, h -> h.paletteError(wrong));
@@ -296,7 +292,7 @@ final class LooksTest {
     }
 
     private static void cover() {
-        Palettehouse house = onePaintLayer();
+        Palettehouse house = Check.onePaintLayer();
         Check.sameDouble("nothing is covered", 0, house.cover());
         house.fill(0, 0, 16, 16, 9, 255);
         Check.sameDouble("all is covered", 1, house.cover());
@@ -309,7 +305,7 @@ final class LooksTest {
     }
 
     private static void mean() {
-        Palettehouse house = onePaintLayer();
+        Palettehouse house = Check.onePaintLayer();
         Check.thrown("the mean of nothing", Check.ARITHMETIC, house, h -> h.mean());
         house.fill(0, 0, 1, 1, 10, 100);
         Check.sameDouble("of one pixel", 10, house.mean());
@@ -322,7 +318,7 @@ final class LooksTest {
     }
 
     private static void isConsistent() {
-        Palettehouse house = onePaintLayer();
+        Palettehouse house = Check.onePaintLayer();
         Check.isTrue("without tiles", house.isConsistent());
         house.fill(0, 0, 16, 16, 10, 20);
         Check.tilesNotKept(house);

@@ -12,8 +12,9 @@ import java.util.TreeMap;
  * Arguments: how many runs, the number of the first one, and "told" to list how often which answer came.
  */
 final class ModelTest {
-    private static final int RUNS = 500;
-    private static final int CALLS = 512;
+    private static final int RUNS = 600;
+    /** Behind these there are some 90 calls at the end: nothing is promised of an object behind its 512th call. */
+    private static final int CALLS = 420;
     private static final String EDITS = "addLayer setLook setPassing setChange setOffset lock move remove setMask "
             + "fill fillMask stroke blur paintFrom select selectLike grow feather invert play ";
     private static final String[] NAMES = {
@@ -71,20 +72,19 @@ final class ModelTest {
             Object got = answer(OF_PROGRAM.get(name), house, args);
             String told = "run " + number + ", call " + call + ": " + name + Arrays.toString(args);
             Check.isTrue(told + " answered " + got + ", due is " + due, due.equals(got));
-            if (!due.equals(got) || call % 16 == 15 && !isAlike(told)) {
+            if (!due.equals(got)) {
                 return;
             }
         }
-        isAlike("run " + number + " at its end");
+        atTheEnd("run " + number + " at its end");
     }
 
-    private boolean isAlike(String told) {
+    private void atTheEnd(String told) {
         boolean isAlike = model.sum() == house.sum() && model.state() == house.state() && house.isConsistent();
         for (int i = 0; i < 256 && isAlike; i += 3) {
             isAlike = model.valueAnew(i % 16, i / 16) == house.valueAnew(i % 16, i / 16);
         }
         Check.isTrue(told + ": the states are not alike", isAlike);
-        return isAlike;
     }
 
     private static Object answer(Method method, Object object, Object[] args) throws Exception {

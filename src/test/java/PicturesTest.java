@@ -26,12 +26,6 @@ final class PicturesTest {
         Check.end();
     }
 
-    private static Palettehouse onePaintLayer() {
-        Palettehouse house = new Palettehouse();
-        house.addLayer('p', -1);
-        return house;
-    }
-
     private static void pixel(String what, int value, int alpha, Palettehouse house, int x, int y) {
         Check.same("value of " + what, value, house.value(x, y));
         Check.same("alpha of " + what, alpha, house.alpha(x, y));
@@ -46,24 +40,28 @@ final class PicturesTest {
     }
 
     private static void fill() {
-        Palettehouse house = onePaintLayer();
+        Palettehouse house = Check.onePaintLayer();
         Check.same("fill answers the state", 2, house.fill(0, 2 * 16 + 14, 9, 3, 50, 60));
         pixel("the first pixel", 50, 60, house, 14, 2);
         pixel("the last pixel that is in the picture", 50, 60, house, 15, 4);
         pixel("a pixel below the box", 0, 0, house, 15, 5);
         pixel("a pixel ahead of the box", 0, 0, house, 13, 2);
         pixel("no pixel of the next row", 0, 0, house, 0, 3);
-        Check.same("so many pixels", 6, countOfAlpha(house, 60));
-        house.fill(0, 0, 16, 16, 255, 255);
-        Check.same("the whole picture", 256, countOfAlpha(house, 255));
-        house.fill(0, 255, 16, 16, 0, 0);
-        Check.same("the last pixel alone", 255, countOfAlpha(house, 255));
-        house.fill(0, 3, 1, 16, 1, 0);
-        Check.same("a column", 239, countOfAlpha(house, 255));
+        fillsSoMany(6, 2 * 16 + 14, 9, 3);
+        fillsSoMany(256, 0, 16, 16);
+        fillsSoMany(1, 255, 16, 16);
+        fillsSoMany(16, 3, 1, 16);
+        fillsSoMany(16, 3 * 16, 16, 1);
+    }
+
+    private static void fillsSoMany(int due, int place, int width, int height) {
+        Palettehouse house = Check.onePaintLayer();
+        house.fill(0, place, width, height, 1, 77);
+        Check.same("pixels of " + width + " by " + height + " from " + place + " on", due, countOfAlpha(house, 77));
     }
 
     private static void fillBySelection() {
-        Palettehouse house = onePaintLayer();
+        Palettehouse house = Check.onePaintLayer();
         house.fill(0, 0, 16, 16, 40, 20);
         house.select(5 * 16 + 5, 1, 1, 'r');
         house.feather();
@@ -81,7 +79,7 @@ final class PicturesTest {
     }
 
     private static void fillByHalf() {
-        Palettehouse house = onePaintLayer();
+        Palettehouse house = Check.onePaintLayer();
         house.select(0, 1, 16, 'r');
         house.feather();
         // Three of six, and (3 * 255 + 3) / 6 = 128; 128 * 1 + 127 = 255.
@@ -92,7 +90,7 @@ final class PicturesTest {
     }
 
     private static void fillLocked() {
-        Palettehouse house = onePaintLayer();
+        Palettehouse house = Check.onePaintLayer();
         house.fill(0, 0, 8, 16, 40, 20);
         house.lock(0, true);
         house.fill(0, 0, 16, 16, 90, 255);
@@ -107,7 +105,7 @@ final class PicturesTest {
     }
 
     private static void fillTiles() {
-        Palettehouse house = onePaintLayer();
+        Palettehouse house = Check.onePaintLayer();
         Check.same("one pixel", 1 << 6, Check.tilesTouched(house, h -> h.fill(0, 4 * 16 + 8, 1, 1, 5, 5)));
         Check.same("nothing changes", 1 << 6, Check.tilesTouched(house, h -> h.fill(0, 4 * 16 + 8, 1, 1, 5, 5)));
         Check.same("four tiles", 0x33, Check.tilesTouched(house, h -> h.fill(0, 3 * 16 + 3, 2, 2, 5, 5)));
@@ -124,7 +122,7 @@ final class PicturesTest {
     }
 
     private static void fillWrong() {
-        Palettehouse house = onePaintLayer();
+        Palettehouse house = Check.onePaintLayer();
         house.addLayer('g', -1);
         Check.thrown("no such layer", Check.INDEX, house, h -> h.fill(2, -1, 1, 1, 1, 1));
         Check.thrown("place -1", Check.ARGUMENT, house, h -> h.fill(0, -1, 1, 1, 1, 1));
@@ -145,7 +143,7 @@ final class PicturesTest {
     }
 
     private static void fillMask() {
-        Palettehouse house = onePaintLayer();
+        Palettehouse house = Check.onePaintLayer();
         house.fill(0, 0, 16, 16, 100, 255);
         house.setMask(0, true);
         house.setOffset(0, 1, 0);
@@ -165,7 +163,7 @@ final class PicturesTest {
     }
 
     private static void fillMaskWrong() {
-        Palettehouse house = onePaintLayer();
+        Palettehouse house = Check.onePaintLayer();
         house.addLayer('g', -1);
         house.setMask(1, true);
         Check.thrown("no such layer", Check.INDEX, house, h -> h.fillMask(2, -1, 1, 1, 1));
@@ -196,9 +194,10 @@ final class PicturesTest {
     }
 
     private static void strokePlaces(String due, int from, int to, int size, int spacing) {
-        Palettehouse house = onePaintLayer();
+        Palettehouse house = Check.onePaintLayer();
         Check.same("stroke answers the state", 2, house.stroke(0, from, to, size, spacing, 9, 255));
-        Check.isTrue("stroke from " + from + " to " + to + ": " + placesOf(house) + ", due is " + due, placesOf(house).equals(due));
+        String got = placesOf(house);
+        Check.isTrue("stroke from " + from + " to " + to + ": " + got + ", due is " + due, got.equals(due));
     }
 
     private static void stroke() {
@@ -227,7 +226,7 @@ final class PicturesTest {
     }
 
     private static void strokeOnAlpha() {
-        Palettehouse house = onePaintLayer();
+        Palettehouse house = Check.onePaintLayer();
         house.fill(0, 0, 16, 16, 200, 100);
         house.stroke(0, 0, 3, 4, 1, 50, 80);
         // Stamps on stamps count once: d = 255 * 80 + 175 * 100 = 37900, n = 80 * 255 * 50 + 175 * 100 * 200.
@@ -248,7 +247,7 @@ final class PicturesTest {
     }
 
     private static void strokeTiles() {
-        Palettehouse house = onePaintLayer();
+        Palettehouse house = Check.onePaintLayer();
         Check.same("a stroke in tiles", 0x3, Check.tilesTouched(house, h -> h.stroke(0, 0, 7, 1, 1, 1, 1)));
         Check.same("stamps in tiles, not steps", 0x5, Check.tilesTouched(house, h -> h.stroke(0, 0, 9, 1, 9, 1, 0)));
         Check.same("a stamp over a corner", 0x33, Check.tilesTouched(house, h -> h.stroke(0, 51, 51, 2, 1, 1, 1)));
@@ -257,7 +256,7 @@ final class PicturesTest {
     }
 
     private static void strokeWrong() {
-        Palettehouse house = onePaintLayer();
+        Palettehouse house = Check.onePaintLayer();
         house.addLayer('a', -1);
         Check.thrown("no such layer", Check.INDEX, house, h -> h.stroke(2, -1, 0, 1, 1, 1, 1));
         Check.thrown("from -1", Check.ARGUMENT, house, h -> h.stroke(0, -1, 0, 1, 1, 1, 1));
@@ -280,7 +279,7 @@ final class PicturesTest {
     }
 
     private static void blur() {
-        Palettehouse house = onePaintLayer();
+        Palettehouse house = Check.onePaintLayer();
         house.fill(0, 5 * 16 + 5, 1, 1, 90, 255);
         house.fill(0, 5 * 16 + 6, 1, 1, 30, 100);
         Check.same("blur answers the state", 4, house.blur(0, 1));
@@ -307,7 +306,7 @@ final class PicturesTest {
     }
 
     private static void blurRounded() {
-        Palettehouse house = onePaintLayer();
+        Palettehouse house = Check.onePaintLayer();
         house.fill(0, 8 * 16 + 8, 1, 1, 0, 5);
         house.blur(0, 1);
         pixel("a value 0 stays, and its alpha is (10 + 9) / 18", 0, 1, house, 8, 8);
@@ -323,7 +322,7 @@ final class PicturesTest {
     }
 
     private static void blurByOffset() {
-        Palettehouse house = onePaintLayer();
+        Palettehouse house = Check.onePaintLayer();
         house.fill(0, 0, 1, 1, 90, 252);
         house.setOffset(0, 15, 15);
         Check.same("blur touches all tiles", ALL, Check.tilesTouched(house, h -> h.blur(0, 1)));
@@ -337,7 +336,7 @@ final class PicturesTest {
     }
 
     private static void blurWrong() {
-        Palettehouse house = onePaintLayer();
+        Palettehouse house = Check.onePaintLayer();
         house.addLayer('g', -1);
         Check.thrown("no such layer", Check.INDEX, house, h -> h.blur(-1, 0));
         Check.thrown("radius 0", Check.ARGUMENT, house, h -> h.blur(0, 0));
@@ -350,7 +349,7 @@ final class PicturesTest {
     }
 
     private static void paintFrom() {
-        Palettehouse house = onePaintLayer();
+        Palettehouse house = Check.onePaintLayer();
         house.fill(0, 0, 16, 16, 50, 60);
         house.fill(0, 0, 16, 16, 70, 80);
         Check.same("paintFrom answers the state", 4, house.paintFrom(0, 2, 17, 2));
@@ -358,18 +357,22 @@ final class PicturesTest {
         pixel("the last one of the square", 50, 60, house, 2, 2);
         pixel("beside the square", 70, 80, house, 3, 2);
         Check.same("so many pixels", 4, countOfAlpha(house, 60));
+        long sum = house.sum();
         Check.same("from the present state", 5, house.paintFrom(0, 4, 0, 16));
-        Check.same("nothing changes", 4, countOfAlpha(house, 60));
+        Check.same("nothing changes", sum, house.sum());
         house.go(2);
         house.paintFrom(0, 5, 0, 2);
         pixel("from a state of another branch", 70, 80, house, 0, 0);
         pixel("from it, too", 50, 60, house, 1, 1);
+        house.go(1);
+        sum = house.sum();
+        house.go(5);
         house.paintFrom(0, 1, 0, 16);
-        Check.same("from an empty picture", 256, countOfAlpha(house, 0));
+        Check.same("from an empty picture", sum, house.sum());
     }
 
     private static void paintFromBounds() {
-        Palettehouse house = onePaintLayer();
+        Palettehouse house = Check.onePaintLayer();
         house.fill(0, 0, 16, 16, 50, 60);
         house.setOffset(0, 4, 0);
         house.fill(0, 0, 16, 16, 70, 80);
@@ -387,7 +390,7 @@ final class PicturesTest {
     }
 
     private static void paintFromWrong() {
-        Palettehouse house = onePaintLayer();
+        Palettehouse house = Check.onePaintLayer();
         house.addLayer('g', -1);
         house.addLayer('p', -1);
         Check.thrown("no such layer", Check.INDEX, house, h -> h.paintFrom(3, 0, 0, 1));

@@ -15,14 +15,8 @@ final class StatesTest {
         Check.end();
     }
 
-    private static Palettehouse onePaintLayer() {
-        Palettehouse house = new Palettehouse();
-        house.addLayer('p', -1);
-        return house;
-    }
-
     private static void undo() {
-        Palettehouse house = onePaintLayer();
+        Palettehouse house = Check.onePaintLayer();
         house.fill(0, 0, 16, 16, 50, 255);
         house.fill(0, 0, 16, 16, 60, 255);
         Check.same("back by one", 2, house.undo());
@@ -37,7 +31,7 @@ final class StatesTest {
     }
 
     private static void redo() {
-        Palettehouse house = onePaintLayer();
+        Palettehouse house = Check.onePaintLayer();
         for (int value = 10; value < 40; value += 10) {
             house.go(1);
             house.fill(0, 0, 16, 16, value, 255);
@@ -59,7 +53,7 @@ final class StatesTest {
     }
 
     private static void go() {
-        Palettehouse house = onePaintLayer();
+        Palettehouse house = Check.onePaintLayer();
         house.fill(0, 0, 16, 16, 50, 255);
         house.select(0, 1, 1, 'r');
         Check.same("to the first one", 3, house.go(0));
@@ -83,7 +77,7 @@ final class StatesTest {
     }
 
     private static void states() {
-        Palettehouse house = onePaintLayer();
+        Palettehouse house = Check.onePaintLayer();
         Check.same("state 1", 1, house.state());
         Check.same("two states", 2, house.states());
         house.undo();
@@ -141,7 +135,7 @@ final class StatesTest {
     }
 
     private static void record() {
-        Palettehouse house = onePaintLayer();
+        Palettehouse house = Check.onePaintLayer();
         for (int kept = 0; kept < 3; kept++) {
             Check.same("records that are kept", kept, house.record());
             house.fill(0, 0, 1, 1, 1, 1);
@@ -151,7 +145,7 @@ final class StatesTest {
     }
 
     private static void recordWrong() {
-        Palettehouse house = onePaintLayer();
+        Palettehouse house = Check.onePaintLayer();
         house.record();
         Check.thrown("one is being recorded", Check.STATE, house, h -> h.record());
         house.undo();
@@ -159,7 +153,7 @@ final class StatesTest {
     }
 
     private static void stop() {
-        Palettehouse house = onePaintLayer();
+        Palettehouse house = Check.onePaintLayer();
         Check.thrown("none is being recorded", Check.STATE, house, h -> h.stop());
         house.record();
         Check.same("no edit", 0, house.stop());
@@ -185,7 +179,7 @@ final class StatesTest {
     }
 
     private static void play() {
-        Palettehouse house = onePaintLayer();
+        Palettehouse house = Check.onePaintLayer();
         house.addLayer('p', -1);
         house.record();
         house.fill(0, 17, 3, 3, 50, 200);
@@ -223,7 +217,7 @@ final class StatesTest {
     }
 
     private static void playBounds() {
-        Palettehouse house = onePaintLayer();
+        Palettehouse house = Check.onePaintLayer();
         house.record();
         for (int i = 0; i < 10; i++) {
             house.fill(0, i, 1, 1, 255, 255);
@@ -243,7 +237,7 @@ final class StatesTest {
     }
 
     private static void playWrong() {
-        Palettehouse house = onePaintLayer();
+        Palettehouse house = Check.onePaintLayer();
         house.addLayer('g', -1);
         Check.thrown("no record", Check.INDEX, house, h -> h.play(0, 0));
         house.record();

@@ -15,33 +15,25 @@ final class TilesTest {
         Check.end();
     }
 
-    private static Palettehouse onePaintLayer() {
-        Palettehouse house = new Palettehouse();
-        house.addLayer('p', -1);
-        return house;
-    }
-
     private static void touches(String what, int due, Palettehouse house, java.util.function.Consumer<Palettehouse> call) {
         Check.same("tiles touched by " + what, due, Check.tilesTouched(house, call));
         Check.isTrue("not consistent behind " + what, house.isConsistent());
     }
 
     private static void tilesOfPixels() {
-        Palettehouse house = onePaintLayer();
         for (int tile = 0; tile < 16; tile++) {
-            for (int i = 0; i < 16; i++) {
-                int place = 16 * (tile / 4 * 4 + i / 4) + tile % 4 * 4 + i % 4;
-                touches("the pixel " + place, 1 << tile, house, h -> h.fill(0, place, 1, 1, 1, 1));
-                house.undo();
-                if (house.states() == 60) {
-                    house = onePaintLayer();
+            for (int y = tile / 4 * 4; y < tile / 4 * 4 + 4; y++) {
+                Palettehouse house = Check.onePaintLayer();
+                for (int x = tile % 4 * 4; x < tile % 4 * 4 + 4; x++) {
+                    int place = 16 * y + x;
+                    touches("the pixel " + place, 1 << tile, house, h -> h.fill(0, place, 1, 1, 1, 1));
                 }
             }
         }
     }
 
     private static void oneLook() {
-        Palettehouse house = onePaintLayer();
+        Palettehouse house = Check.onePaintLayer();
         house.value(3, 3);
         Check.same("one tile", 1, house.rendered());
         house.alpha(0, 0);
@@ -53,53 +45,80 @@ final class TilesTest {
         Check.same("all tiles were rendered once", 16, house.rendered());
     }
 
+    private static Palettehouse oneOfEachKind() {
+        Palettehouse house = Check.onePaintLayer();
+        house.addLayer('g', -1);
+        house.addLayer('a', -1);
+        return house;
+    }
+
+    /** All touch all tiles, but for lock; also if they change nothing. */
     private static void editsOfLayers() {
-        Palettehouse house = onePaintLayer();
-        touches("addLayer", ALL, house, h -> h.addLayer('g', -1));
-        touches("addLayer of a change", ALL, house, h -> h.addLayer('a', -1));
-        touches("setLook", ALL, house, h -> h.setLook(0, 255, 'n', true));
-        touches("setPassing", ALL, house, h -> h.setPassing(1, false));
-        touches("setChange", ALL, house, h -> h.setChange(2, 'i', 0, 0));
-        touches("setOffset", ALL, house, h -> h.setOffset(0, 0, 0));
-        touches("lock", 0, house, h -> h.lock(0, true));
-        touches("move", ALL, house, h -> h.move(0, 0));
-        touches("setMask", ALL, house, h -> h.setMask(0, true));
-        touches("setMask once more", ALL, house, h -> h.setMask(0, false));
-        touches("blur", ALL, house, h -> h.blur(0, 1));
-        touches("remove", ALL, house, h -> h.remove(1));
-        touches("a call that fails", 0, house, h -> Check.thrown("no group", Check.UNSUPPORTED, h, g -> g.setPassing(0, true)));
-        touches("record", 0, house, h -> h.record());
-        touches("stop", 0, house, h -> h.stop());
+        for (char kind : "pga".toCharArray()) {
+            touches("addLayer " + kind, ALL, oneOfEachKind(), h -> h.addLayer(kind, -1));
+            touches("addLayer in a group " + kind, ALL, oneOfEachKind(), h -> h.addLayer(kind, 1));
+        }
+        for (int layer = 0; layer < 3; layer++) {
+            int edited = layer;
+            touches("setLook as it was", ALL, oneOfEachKind(), h -> h.setLook(edited, 255, 'n', true));
+            touches("move to its own place", ALL, oneOfEachKind(), h -> h.move(edited, edited));
+            touches("setMask", ALL, oneOfEachKind(), h -> h.setMask(edited, true));
+            touches("setMask where there is none", ALL, oneOfEachKind(), h -> h.setMask(edited, false));
+            touches("remove", ALL, oneOfEachKind(), h -> h.remove(edited));
+        }
+        touches("setPassing as it was", ALL, oneOfEachKind(), h -> h.setPassing(1, false));
+        touches("setPassing", ALL, oneOfEachKind(), h -> h.setPassing(1, true));
+        touches("setChange as it was", ALL, oneOfEachKind(), h -> h.setChange(2, 'i', 0, 0));
+        touches("setOffset as it was", ALL, oneOfEachKind(), h -> h.setOffset(0, 0, 0));
+        touches("lock", 0, oneOfEachKind(), h -> h.lock(0, true));
+        touches("lock as it was", 0, oneOfEachKind(), h -> h.lock(0, false));
+        touches("blur", ALL, oneOfEachKind(), h -> h.blur(0, 1));
+        touches("record and stop", 0, oneOfEachKind(), h -> {
+            h.record();
+            h.stop();
+        });
+        touches("a call that fails", 0, oneOfEachKind(),
+                h -> Check.thrown("no group", Check.UNSUPPORTED, h, g -> g.setPassing(0, true)));
+    }
+
+    /** A group with a group with a paint layer and a change; one of the first three is not shown. */
+    private static Palettehouse hiddenAt(int hidden) {
+        Palettehouse house = new Palettehouse();
+        house.addLayer('g', -1);
+        house.addLayer('g', 0);
+        house.addLayer('p', 1);
+        house.addLayer('a', 1);
+        house.setMask(2, true);
+        house.setLook(hidden, 255, 'n', false);
+        return house;
     }
 
     private static void hiddenLayers() {
         for (int hidden = 0; hidden < 3; hidden++) {
-            Palettehouse house = new Palettehouse();
-            house.addLayer('g', -1);
-            house.addLayer('g', 0);
-            house.addLayer('p', 1);
-            house.addLayer('a', 1);
-            house.setMask(2, true);
-            house.setLook(hidden, 255, 'n', false);
-            touches("fill, hidden", 0, house, h -> h.fill(2, 0, 16, 16, 9, 9));
-            touches("stroke, hidden", 0, house, h -> h.stroke(2, 0, 255, 4, 1, 9, 9));
-            touches("blur, hidden", 0, house, h -> h.blur(2, 1));
-            touches("paintFrom, hidden", 0, house, h -> h.paintFrom(2, 3, 0, 16));
-            touches("fillMask, hidden", 0, house, h -> h.fillMask(2, 0, 16, 16, 9));
-            touches("setOffset, hidden", 0, house, h -> h.setOffset(2, 3, 3));
-            touches("setMask, hidden", 0, house, h -> h.setMask(2, false));
-            touches("move, hidden", 0, house, h -> h.move(2, 1));
+            touches("fill, hidden", 0, hiddenAt(hidden), h -> h.fill(2, 0, 16, 16, 9, 9));
+            touches("stroke, hidden", 0, hiddenAt(hidden), h -> h.stroke(2, 0, 255, 4, 1, 9, 9));
+            touches("blur, hidden", 0, hiddenAt(hidden), h -> h.blur(2, 1));
+            touches("paintFrom, hidden", 0, hiddenAt(hidden), h -> h.paintFrom(2, 3, 0, 16));
+            touches("fillMask, hidden", 0, hiddenAt(hidden), h -> h.fillMask(2, 0, 16, 16, 9));
+            touches("setOffset, hidden", 0, hiddenAt(hidden), h -> h.setOffset(2, 3, 3));
+            touches("setMask, hidden", 0, hiddenAt(hidden), h -> h.setMask(2, false));
+            touches("move, hidden", 0, hiddenAt(hidden), h -> h.move(2, 1));
+            touches("remove, hidden", 0, hiddenAt(hidden), h -> h.remove(2));
             int due = hidden < 2 ? 0 : ALL;
-            touches("a layer beside a hidden one", due, house, h -> h.setChange(3, 'i', 0, 0));
-            touches("setPassing of the inner group", due, house, h -> h.setPassing(1, true));
-            touches("setPassing of the outer group", hidden < 1 ? 0 : ALL, house, h -> h.setPassing(0, true));
-            touches("addLayer in the inner group", due, house, h -> h.addLayer('p', 1));
-            touches("remove, hidden", 0, house, h -> h.remove(2));
+            touches("a layer beside a hidden one", due, hiddenAt(hidden), h -> h.setChange(3, 'i', 0, 0));
+            touches("setPassing of the inner group", due, hiddenAt(hidden), h -> h.setPassing(1, true));
+            touches("addLayer in the inner group", due, hiddenAt(hidden), h -> h.addLayer('p', 1));
+            touches("remove of the inner group", due, hiddenAt(hidden), h -> h.remove(1));
+            int dueOuter = hidden < 1 ? 0 : ALL;
+            touches("setPassing of the outer group", dueOuter, hiddenAt(hidden), h -> h.setPassing(0, true));
+            touches("addLayer in the outer group", dueOuter, hiddenAt(hidden), h -> h.addLayer('g', 0));
+            touches("remove of the outer group", dueOuter, hiddenAt(hidden), h -> h.remove(0));
+            touches("a layer outside of all", ALL, hiddenAt(hidden), h -> h.addLayer('p', -1));
         }
     }
 
     private static void shownAndHidden() {
-        Palettehouse house = onePaintLayer();
+        Palettehouse house = Check.onePaintLayer();
         house.addLayer('g', -1);
         house.addLayer('p', 1);
         touches("hiding", ALL, house, h -> h.setLook(0, 255, 'n', false));
@@ -117,7 +136,7 @@ final class TilesTest {
     }
 
     private static void hiddenAtAddingAndRemoving() {
-        Palettehouse house = onePaintLayer();
+        Palettehouse house = Check.onePaintLayer();
         house.addLayer('g', -1);
         house.setLook(1, 255, 'n', false);
         touches("addLayer in a hidden group", 0, house, h -> h.addLayer('p', 1));
@@ -135,7 +154,7 @@ final class TilesTest {
     }
 
     private static void ways() {
-        Palettehouse house = onePaintLayer();
+        Palettehouse house = Check.onePaintLayer();
         house.fill(0, 0, 1, 1, 10, 255);
         house.fill(0, 4, 1, 1, 20, 255);
         house.lock(0, true);
@@ -154,7 +173,7 @@ final class TilesTest {
     }
 
     private static void waysOverBranches() {
-        Palettehouse house = onePaintLayer();
+        Palettehouse house = Check.onePaintLayer();
         house.fill(0, 0, 1, 1, 10, 255);
         house.fill(0, 4, 1, 1, 20, 255);
         house.go(2);
@@ -174,7 +193,7 @@ final class TilesTest {
     }
 
     private static void othersDoNotLook() {
-        Palettehouse house = onePaintLayer();
+        Palettehouse house = Check.onePaintLayer();
         house.fill(0, 0, 16, 16, 10, 255);
         house.valueAnew(0, 0);
         house.palette(3, 0);
