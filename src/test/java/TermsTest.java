@@ -137,57 +137,78 @@ final class TermsTest {
         }
     }
 
-    /** What an edit does not tell of a layer stays: all that can be told of it is asked behind all the edits. */
+    /** What an edit does not tell of a layer stays as it was. */
     private static void editsLeaveTheRest() {
-        Palettehouse house = twoLayers(200, 255, 100, 60);
-        house.addLayer('g', -1);
-        house.addLayer('a', 2);
-        house.setLook(1, 128, 'd', true);
-        house.setOffset(1, 3, 4);
-        house.lock(1, true);
-        house.setPassing(2, true);
-        house.setChange(3, 'l', 150, 200);
-        for (int layer = 1; layer < 4; layer++) {
-            house.setMask(layer, true);
-            house.fillMask(layer, 0, 16, 16, 128);
-        }
-        house.setLook(2, 128, 'm', true);
-        house.setLook(3, 128, 's', true);
-        int edited = house.state();
-        int[] due = {house.valueAnew(9, 9), house.valueAnew(2, 9), house.valueAnew(3, 4)};
-        house.setLook(1, 128, 'd', true);
+        paintLayerStays();
+        groupStays();
+        changeStays();
+    }
+
+    private static void paintLayerStays() {
+        Palettehouse house = twoLayers(200, 255, 100, 255);
+        house.setMask(1, true);
+        house.fillMask(1, 0, 16, 16, 128);
+        house.setLook(1, 255, 'd', true);
         house.setOffset(1, 3, 4);
         house.lock(1, true);
         house.fill(1, 255, 1, 1, 1, 1);
         house.stroke(1, 255, 255, 1, 1, 1, 1);
-        house.paintFrom(1, edited, 254, 1);
+        house.paintFrom(1, 4, 254, 1);
         house.fillMask(1, 255, 1, 1, 1);
-        house.setPassing(2, true);
-        house.setLook(2, 128, 'm', true);
-        house.fillMask(2, 255, 1, 1, 1);
-        house.move(2, 2);
-        house.setChange(3, 'l', 150, 200);
-        house.setLook(3, 128, 's', true);
-        house.fillMask(3, 255, 1, 1, 1);
-        house.move(3, 0);
+        house.move(1, 1);
         house.invert();
         house.invert();
-        Check.same("as it was, over the picture", due[0], house.valueAnew(9, 9));
-        Check.same("as it was, ahead of the offset", due[1], house.valueAnew(2, 9));
-        Check.same("as it was, at the offset", due[2], house.valueAnew(3, 4));
-        house.setMask(3, false);
-        house.setLook(3, 255, 'n', true);
-        house.setMask(2, false);
-        house.setLook(2, 255, 'n', true);
-        Check.same("the change 'l' with 150 and 200 is still there", 255, house.valueAnew(0, 0));
-        house.setChange(3, 'l', 150, 201);
-        Check.same("and is a new one then: 50 * 255 / 51", 250, house.valueAnew(0, 0));
-        house.setPassing(2, false);
+        // |100 - 200| by the strength 128: 128 * 100 + 127 * 200 = 38200 of 255.
+        pixel("over the picture", 150, 255, house, 9, 9);
+        pixel("at the offset", 150, 255, house, 3, 4);
+        pixel("left of the offset", 200, 255, house, 2, 4);
+        pixel("above the offset", 200, 255, house, 3, 3);
+        house.fill(1, 0, 1, 1, 200, 0);
+        pixel("the alpha stays: it is locked", 100, 255, house, 3, 4);
+        house.setLook(1, 255, 'n', false);
+        house.lock(1, false);
+        house.setOffset(1, 0, 0);
+        house.setMask(1, false);
+        house.fill(1, 0, 16, 16, 9, 255);
+        pixel("what is not shown", 200, 255, house, 9, 9);
+    }
+
+    private static void groupStays() {
+        Palettehouse house = Check.onePaintLayer();
+        house.fill(0, 0, 16, 16, 200, 255);
+        house.addLayer('g', -1);
+        house.addLayer('a', 1);
+        house.setPassing(1, true);
+        house.setMask(1, true);
+        house.setLook(1, 128, 'm', true);
+        house.fillMask(1, 255, 1, 1, 1);
+        house.move(1, 1);
+        // 55 by the strength 128: 128 * 55 + 127 * 200 = 32440 of 255.
+        pixel("a passing group", 127, 255, house, 0, 0);
+        house.setPassing(1, false);
+        house.setPassing(1, true);
+        pixel("as it was", 127, 255, house, 0, 0);
         house.setMask(1, false);
         house.setLook(1, 255, 'n', true);
-        house.fill(1, 0, 16, 16, 0, 255);
-        // (60 * 0 + 195 * 200) / 255.
-        Check.same("the layer is still locked", (195 * 200 + 127) / 255, house.valueAnew(5, 5));
+        pixel("still passing", 55, 255, house, 0, 0);
+    }
+
+    private static void changeStays() {
+        Palettehouse house = Check.onePaintLayer();
+        house.fill(0, 0, 16, 16, 200, 255);
+        house.addLayer('a', -1);
+        house.setChange(1, 'l', 150, 250);
+        house.setMask(1, true);
+        house.fillMask(1, 255, 1, 1, 1);
+        house.move(1, 1);
+        house.setLook(1, 255, 'm', true);
+        pixel("50 * 255 / 100", 127, 255, house, 0, 0);
+        house.setLook(1, 128, 'm', true);
+        // 128 * 127 + 127 * 200 + 127 = 41783 of 255.
+        pixel("in part", 163, 255, house, 0, 0);
+        house.setChange(1, 'l', 150, 201);
+        // 50 * 255 / 51 = 250; 128 * 250 + 127 * 200 + 127 = 57527 of 255.
+        pixel("another change, in part as it was", 225, 255, house, 0, 0);
     }
 
     // ---- rendering
